@@ -1,5 +1,3 @@
-import java.util.Arrays;
-
 /**
  * The desk of a prize singing: recordings laid along pieces, places from judges' rows,
  * members of clubs by days, hours of performances and drawn orders.
@@ -302,8 +300,10 @@ public final class GleePrize {
         }
 
         int addReadings(int pitch, int n) {
-            Arrays.fill(readings, size, size + n, pitch);
-            size += n;
+            for (int i = 0; i < n; i++) {
+                readings[size] = pitch;
+                size++;
+            }
             return size;
         }
     }
@@ -363,8 +363,7 @@ public final class GleePrize {
 
         void find(Piece piece, Recording recording, Measure measure) {
             size = piece.size;
-            Arrays.fill(best[size], 0, recording.size, IMPOSSIBLE);
-            best[size][recording.size] = 0;
+            endAt(recording.size);
             for (int k = size - 1; k >= 0; k--) {
                 addUpReadings(recording, measure, piece.pitches[k]);
                 splitByLength(best[k + 1], recording.size, measure.stretch);
@@ -378,6 +377,14 @@ public final class GleePrize {
             hear(piece, recording, measure.ear);
         }
 
+        /** Behind the last note no reading may be left. */
+        private void endAt(int end) {
+            for (int i = 0; i < end; i++) {
+                best[size][i] = IMPOSSIBLE;
+            }
+            best[size][end] = 0;
+        }
+
         private void addUpReadings(Recording recording, Measure measure, int pitch) {
             sums[0] = 0;
             for (int i = 0; i < recording.size; i++) {
@@ -386,10 +393,9 @@ public final class GleePrize {
         }
 
         /**
-         * The stretch of a note that begins at i and ends ahead of j grows with i + due - j as long as
-         * it is too short, and with j - i - due from then on. The part with j is put into a row of its
-         * own for each of both, so that each i need not look at every j: among all ends behind the due
-         * one the best is the same for every note that is due to end there.
+         * The stretch of a note from i to ahead of j is that of i + due - j while it is too short, and
+         * that of j - i - due from then on. The parts with j stand in two rows of their own, so that an i
+         * need not look at every j: of all ends from the due one on the best is found here once.
          */
         private void splitByLength(int[] behind, int end, int stretch) {
             int least = 2 * IMPOSSIBLE;
@@ -401,15 +407,15 @@ public final class GleePrize {
             }
         }
 
-        /** The least cost, with sums[i] too much, if a note begins at i and is due to end at due, behind i. */
-        private int findLeast(int i, int due, int end, Measure measure) {
-            int dueCost = measure.stretch * due;
+        /** The least cost, with sums[i] too much, of a note that begins at i and is due to end at dueEnd. */
+        private int findLeast(int i, int dueEnd, int end, Measure measure) {
+            int dueCost = measure.stretch * dueEnd;
             int least = tooFew[i] + measure.lack;
-            for (int j = i + 1; j < due && j <= end; j++) {
+            for (int j = i + 1; j < dueEnd && j <= end; j++) {
                 least = Math.min(least, tooFew[j]);
             }
             least += dueCost;
-            return due <= end ? Math.min(least, enough[due] - dueCost) : least;
+            return dueEnd <= end ? Math.min(least, enough[dueEnd] - dueCost) : least;
         }
 
         private void layForward(Piece piece, Recording recording, Measure measure) {
@@ -470,8 +476,6 @@ public final class GleePrize {
 
     /** The judges' rows, and THE PLACES by them. */
     private static final class Panel {
-        private static final int BITS_OF_CLUB = 4;
-
         int singing = 0;
 
         // The clubs in each judge's row as bits, and the rank of each of them there.
@@ -495,7 +499,7 @@ public final class GleePrize {
         }
 
         private static int clubAt(long row, int i) {
-            return (int) (row >>> BITS_OF_CLUB * i) & (1 << BITS_OF_CLUB) - 1;
+            return (int) (row >>> (4 * i)) & 15;
         }
 
         boolean isSinging(int club) {
@@ -628,13 +632,28 @@ public final class GleePrize {
         int findHours(Roll roll, int day) {
             findClashes(roll, day);
             stood = size;
-            for (int most = 0; most < size; most++) {
+            for (int most = countNeeded(); most < size; most++) {
                 if (most * hallCount >= size && standsFrom(0, 0, most)) {
                     return most;
                 }
             }
             standsFrom(0, 0, size);
             return size;
+        }
+
+        /** Performances that clash each with each need as many hours: fewer need not be searched. */
+        private int countNeeded() {
+            int needed = 0;
+            for (int i = 0; i < size; i++) {
+                int clashing = 1 << i;
+                for (int other = 0; other < size; other++) {
+                    if ((clashing & ~clashes[other]) == 0) {
+                        clashing |= 1 << other;
+                    }
+                }
+                needed = Math.max(needed, Integer.bitCount(clashing));
+            }
+            return needed;
         }
 
         private void findClashes(Roll roll, int day) {
@@ -645,6 +664,7 @@ public final class GleePrize {
                 for (int other = 0; other < i; other++) {
                     if (clubs[other] == clubs[i] || (singersOf[other] & singersOf[i]) != 0) {
                         clashes[i] |= 1 << other;
+                        clashes[other] |= 1 << i;
                     }
                 }
             }
