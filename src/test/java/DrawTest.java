@@ -8,11 +8,10 @@ public final class DrawTest {
         int[] seeds = {0, 1, -1, 7, 123456789, -987654321, Integer.MAX_VALUE, Integer.MIN_VALUE};
         for (int seed : seeds) {
             for (int n = 1; n <= 12; n++) {
-                int[] order = drawnPlainly(n, seed);
-                for (int i = 0; i < n; i++) {
-                    check.due("draw(" + n + ", " + seed + ", " + i + ")", x.draw(n, seed, i), order[i]);
+                for (int i = -1; i <= n; i++) {
+                    int due = new PlainDesk().draw(n, seed, i);
+                    check.due("draw(" + n + ", " + seed + ", " + i + ")", x.draw(n, seed, i), due);
                 }
-                check.due("draw(" + n + ", " + seed + ", " + n + ")", x.draw(n, seed, n), -1);
             }
         }
         check.end();
@@ -35,21 +34,5 @@ public final class DrawTest {
         check.due("draw(3, 0, 0)", x.draw(3, 0, 0), 1);
         check.due("draw(3, 0, 1)", x.draw(3, 0, 1), 2);
         check.due("draw(3, 0, 2)", x.draw(3, 0, 2), 0);
-    }
-
-    private static int[] drawnPlainly(int n, int seed) {
-        int[] row = new int[n];
-        for (int i = 0; i < n; i++) {
-            row[i] = i;
-        }
-        long g = seed;
-        for (int i = n - 1; i > 0; i--) {
-            g = (1103515245L * (int) g + 12345L) & 0xffffffffL;
-            int other = (int) ((g >> 8) % (i + 1));
-            int kept = row[other];
-            row[other] = row[i];
-            row[i] = kept;
-        }
-        return row;
     }
 }

@@ -14,7 +14,9 @@ public final class HoursTest {
         commonSingers(check);
         fewestAheadOfEarly(check);
         lesserHoursFirst(check);
+        chain(check);
         allWays(check);
+        twelve(check);
         check.end();
     }
 
@@ -156,6 +158,25 @@ public final class HoursTest {
         }
     }
 
+    // Each clashes with the next one of a chain only: two hours do, however long it is.
+    private static void chain(Check check) {
+        int[][] chains = {{1, 0, 3, 2}, {0, 1, 2, 3, 4, 5}, {5, 3, 1, 0, 2, 4}, {0, 5, 1, 4, 2, 3, 9, 8, 7, 6}};
+        for (int[] chain : chains) {
+            GleePrize x = new GleePrize();
+            x.halls(chain.length > 8 ? 4 : 3);
+            for (int i = 1; i < chain.length; i++) {
+                clash(x, i, chain[i - 1], chain[i]);
+            }
+            for (int club = 0; club < chain.length; club++) {
+                x.perform(club);
+            }
+            check.due("a chain of " + chain.length, x.hours(0), chain.length > 8 ? 3 : 2);
+            for (int i = 1; i < chain.length; i++) {
+                check.due("neighbours " + i + " stand apart", x.hour(chain[i - 1]) != x.hour(chain[i]), true);
+            }
+        }
+    }
+
     /** Every way to put up to six performances into hours, told in the document's order. */
     private static void allWays(Check check) {
         Random random = new Random(3);
@@ -163,8 +184,8 @@ public final class HoursTest {
             GleePrize x = new GleePrize();
             int halls = 1 + random.nextInt(4);
             x.halls(halls);
-            for (int i = random.nextInt(16); i > 0; i--) {
-                x.member(random.nextInt(6), random.nextInt(7), 0, 1000);
+            for (int i = random.nextInt(10); i > 0; i--) {
+                clash(x, random.nextBoolean() ? i : 0, random.nextInt(7), random.nextInt(7));
             }
             int[] clubs = new int[1 + random.nextInt(6)];
             for (int i = 0; i < clubs.length; i++) {
@@ -175,6 +196,34 @@ public final class HoursTest {
             check.due("run " + run + " hours", x.hours(5), used(best));
             for (int i = 0; i < clubs.length; i++) {
                 check.due("run " + run + " hour " + i, x.hour(i), best[i]);
+            }
+        }
+    }
+
+    /** Twelve performances with clashes between pairs of clubs, which need not all clash with one another. */
+    private static void twelve(Check check) {
+        Random random = new Random(4);
+        for (int run = 0; run < 200; run++) {
+            GleePrize x = new GleePrize();
+            PlainDesk plain = new PlainDesk();
+            int halls = 2 + random.nextInt(3);
+            x.halls(halls);
+            plain.halls(halls);
+            for (int person = random.nextInt(30); person >= 0; person--) {
+                for (int pair = 0; pair < 2; pair++) {
+                    int club = random.nextInt(10);
+                    x.member(person, club, 0, 1000);
+                    plain.member(person, club, 0, 1000);
+                }
+            }
+            for (int i = 0; i < 12; i++) {
+                int club = random.nextInt(4) == 0 ? random.nextInt(10) : i % 10;
+                x.perform(club);
+                plain.perform(club);
+            }
+            check.due("twelve, run " + run + " hours", x.hours(9), plain.hours(9));
+            for (int i = 0; i < 12; i++) {
+                check.due("twelve, run " + run + " hour " + i, x.hour(i), plain.hour(i));
             }
         }
     }

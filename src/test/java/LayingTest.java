@@ -166,8 +166,11 @@ public final class LayingTest {
         check.due("refused", x.rules(0, 0, 0, 0, 0), false);
         check.due("and nothing changes", x.lay(0), 30);
         x.record(0, 1);
+        check.due("without readings", x.lay(0), 430);
         x.read(0, 1290, 1);
         check.due("another piece", x.lay(0), 10);
+        x.record(0, 0);
+        check.due("the first piece again", x.lay(0), 860);
         x.record(0, 2);
         check.due("a piece without notes", x.lay(0), -1);
     }

@@ -31,6 +31,7 @@ public final class NewObjectTest {
         check.due("judges()", x.judges(), 0);
         for (int club = 0; club < 10; club++) {
             check.due("place(" + club + ")", x.place(club), -1);
+            check.due("ranks(" + club + ", 1): no club sings yet", x.ranks(club, 1), -1);
         }
         check.due("sing(1)", x.sing(1), 1);
         check.due("judges() once a club sings", x.judges(), 0);
