@@ -273,6 +273,32 @@ public final class EdgeHoursTest {
         stand(check, x, 0, 1, 0, 1);
     }
 
+    @Edge(promise = 21, of = "two hours do for a chain of clashes, in any order")
+    static void chainOfClashes(Check check) {
+        GleePrize x = deskOf(0, 1, 2, 3);
+        clash(x, 0, 1, 0);
+        clash(x, 1, 0, 3);
+        clash(x, 2, 3, 2);
+        check.due("hours(0)", x.hours(0), 2);
+        stand(check, x, 0, 1, 0, 1);
+    }
+
+    @Edge(promise = 21, of = "two hours do for a ring of four, a ring of five takes three though no three clash")
+    static void ringsOfClashes(Check check) {
+        int[] hours = {2, 3};
+        for (int size = 4; size <= 5; size++) {
+            GleePrize x = new GleePrize();
+            x.halls(4);
+            for (int club = 0; club < size; club++) {
+                x.perform(club);
+                clash(x, club, club, (club + 1) % size);
+            }
+            check.due("hours(0) of " + size, x.hours(0), hours[size - 4]);
+            check.due("hour(3) of " + size, x.hour(3), 1);
+            check.due("hour(4) of " + size, x.hour(4), size == 5 ? 2 : -1);
+        }
+    }
+
     // Two stand beside 0, two beside 1: 2 with 0 is the lesser way, though 3 and 4 could both stand there.
     @Edge(promise = 21, of = "of several the lesser hour for the first performance in which they differ")
     static void lesserHourFirst(Check check) {

@@ -177,6 +177,22 @@ public final class EdgeLayingTest {
         check.due("lay of gaps", x.lay(0), 0);
     }
 
+    @Edge(promise = 6, of = "recordings asked for in turn, each has its own laying")
+    static void layInTurn(Check check) {
+        GleePrize x = deskWithNotes(1000);
+        x.note(1, 2000, 1);
+        x.record(9, 1);
+        x.read(0, 1003, 2);
+        x.read(9, 2005, 2);
+        for (int turn = 0; turn < 2; turn++) {
+            check.due("lay(0)", x.lay(0), 6);
+            check.due("lay(9)", x.lay(9), 10);
+            check.due("lay(1)", x.lay(1), 460);
+            check.due("lay(-1)", x.lay(-1), -1);
+            check.due("off(9, 0)", x.off(9, 0), 5);
+        }
+    }
+
     // ---- promise 7: laid
 
     @Edge(promise = 7, of = "a note that got no reading: NONE, 0, a fault")

@@ -180,7 +180,7 @@ public final class EdgeMemberTest {
         }
     }
 
-    /** All persons are of all clubs' ends on all days: what is refused is so for its number alone. */
+    /** Everybody is of the first and the last club on all days: what is refused is so for its number alone. */
     private static GleePrize fullDesk() {
         GleePrize x = new GleePrize();
         for (int person = 0; person < 30; person++) {

@@ -325,7 +325,7 @@ public final class EdgePanelTest {
         places(check, deskOf(7, "021", "021", "021", "021", "021", "120", "120", "120", "120"), 1, 3, 2);
     }
 
-    // First for four, though last for five; club 1 is never last, club 2 is ahead for five.
+    // Club 0 is first for four, but last for five; of the first two club 1 is for all, club 2 for five.
     @Edge(promise = 13, of = "4 of nine judges are not the greater half")
     static void fourOfNine(Check check) {
         places(check, deskOf(7, "012", "012", "012", "012", "120", "120", "120", "210", "210"), 3, 1, 2);

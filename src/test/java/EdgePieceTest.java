@@ -114,6 +114,17 @@ public final class EdgePieceTest {
         check.due("the next note", x.note(0, 1000, 1), 2);
     }
 
+    @Edge(promise = 2, of = "a laying that was asked for before sees the note")
+    static void noteAfterLay(Check check) {
+        GleePrize x = new GleePrize();
+        x.note(0, 1000, 1);
+        x.read(0, 1000, 2);
+        check.due("lay(0)", x.lay(0), 0);
+        x.note(0, 1000, 1);
+        check.due("lay(0) with a note more", x.lay(0), 60);
+        check.due("laid(0, 1, 1)", x.laid(0, 1, 1), 1);
+    }
+
     // ---- promise 3: record
 
     @Edge(promise = 3, of = "the first recording of the first piece")
@@ -216,6 +227,16 @@ public final class EdgePieceTest {
         check.due("lay(4)", x.lay(4), 0);
         check.due("lay(6)", x.lay(6), 0);
         check.due("the second note of piece 1", x.note(1, 300, 1), 2);
+    }
+
+    @Edge(promise = 3, of = "a laying that was asked for before sees the other piece")
+    static void recordAfterLay(Check check) {
+        GleePrize x = recordingsWithReadings();
+        x.note(1, 300, 1);
+        check.due("lay(0)", x.lay(0), 0);
+        x.record(0, 1);
+        check.due("lay(0) of piece 1", x.lay(0), 2 * 460);
+        check.due("laid(0, 1, 1)", x.laid(0, 1, 1), 0);
     }
 
     // ---- promise 4: read
@@ -348,6 +369,16 @@ public final class EdgePieceTest {
         check.due("laid(0, 0, 1)", x.laid(0, 0, 1), 2);
     }
 
+    @Edge(promise = 4, of = "a laying that was asked for before sees the readings")
+    static void readAfterLay(Check check) {
+        GleePrize x = new GleePrize();
+        x.note(0, 1000, 1);
+        check.due("lay(0)", x.lay(0), 460);
+        x.read(0, 1001, 2);
+        check.due("lay(0) with readings", x.lay(0), 2);
+        check.due("off(0, 0)", x.off(0, 0), 1);
+    }
+
     // ---- promise 5: rules
 
     private static final int[] LEAST = {1, 0, 0, 0, 0};
@@ -358,7 +389,7 @@ public final class EdgePieceTest {
         return x.rules(rules[0], rules[1], rules[2], rules[3], rules[4]);
     }
 
-    /** One note, and recordings without readings, with a gap, with nine gaps, and as far off as is asked. */
+    /** One note, and recordings without readings, with a gap and with nine gaps; recording 3 is left free. */
     private static GleePrize deskForRules() {
         GleePrize x = new GleePrize();
         x.note(0, 2000, 1);
@@ -440,5 +471,18 @@ public final class EdgePieceTest {
         check.due("rules(3, 7, 11, 13, 17)", set(x, taken), true);
         check.due("rules(9, 0, 0, 0, 0)", x.rules(9, 0, 0, 0, 0), false);
         rulesAre(check, "after both", x, taken);
+    }
+
+    @Edge(promise = 5, of = "a laying that was asked for before sees the rules, the ear alone too")
+    static void rulesAfterLay(Check check) {
+        GleePrize x = new GleePrize();
+        x.note(0, 1000, 1);
+        x.read(0, 1040, 3);
+        check.due("lay(0)", x.lay(0), 3 * 40 + 30);
+        check.due("told(0, 1)", x.told(0, 1), 0);
+        x.rules(2, 20, 30, 400, 39);
+        check.due("told(0, 1) by a finer ear", x.told(0, 1), 1);
+        x.rules(3, 20, 30, 400, 39);
+        check.due("lay(0) by another tempo", x.lay(0), 3 * 40);
     }
 }

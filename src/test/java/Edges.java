@@ -8,7 +8,6 @@ import java.util.List;
 final class Edges {
     static final int MIN = Integer.MIN_VALUE;
     static final int MAX = Integer.MAX_VALUE;
-    static final int NONE = -1;
 
     private Edges() {
     }
