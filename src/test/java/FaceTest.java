@@ -75,6 +75,9 @@ public final class FaceTest {
                 own += isStatic ? 0 : 1;
                 check.due(f + " is final if static", !isStatic || Modifier.isFinal(f.getModifiers()), true);
             }
+            for (Method m : c.getDeclaredMethods()) {
+                check.due(m + " has at most seven parameters", m.getParameterCount() <= 7, true);
+            }
             check.due(c + " has some twenty fields", own <= 20, true);
         }
     }

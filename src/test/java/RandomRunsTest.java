@@ -66,7 +66,7 @@ public final class RandomRunsTest {
     // Few pieces and recordings, and pitches near to one another, so that layings are often alike.
     private void callOfLayings(int method) {
         int r = some(0, 2);
-        int k = some(0, 8);
+        int k = some(0, random.nextBoolean() ? 8 : 23);
         int what = some(0, 2);
         int pitch = random.nextInt(3) == 0 ? some(0, 4800) : 1000 + 20 * random.nextInt(30);
         if (method == 1) {
